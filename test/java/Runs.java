@@ -50,6 +50,15 @@ final class Runs {
         }
     }
 
+    /** Rows by which each TALE but the last fades into the next one, on a new object. */
+    static String chain() {
+        StringBuilder rows = new StringBuilder();
+        for (int tale = 0; tale < 9; tale++) {
+            rows.append("fade ").append(tale).append(' ').append(tale + 1).append(" -> ").append(tale).append('\n');
+        }
+        return rows.toString();
+    }
+
     private static void sayAll(PanTales on, String about, String text) {
         on.wipe();
         for (int i = 0; i < text.length(); i++) {

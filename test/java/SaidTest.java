@@ -119,16 +119,7 @@ public final class SaidTest {
                 ask 1 -> NONE
                 ask 2 -> OUTSIDE
                 """);
-        Runs.run("promise 22, one bed tells all apart", """
-                fade 0 1 -> 0
-                fade 1 2 -> 1
-                fade 2 3 -> 2
-                fade 3 4 -> 3
-                fade 4 5 -> 4
-                fade 5 6 -> 5
-                fade 6 7 -> 6
-                fade 7 8 -> 7
-                fade 8 9 -> 8
+        Runs.run("promise 22, one bed tells all apart", Runs.chain() + """
                 fade 9 0 -> 9
                 seen 0 0 -> 1
                 # bed 7 is behind 7 3 2 1 1 stirs, bed 8 behind 8 4 2 2 1, bed 9 behind 9 4 3 2 1

@@ -225,16 +225,7 @@ public final class WaysTest {
                 faded 2 -1 -> 3
                 faded 2 -2 -> 3
                 """);
-        Runs.run("promise 18, the longest ring and the longest way into one", """
-                fade 0 1 -> 0
-                fade 1 2 -> 1
-                fade 2 3 -> 2
-                fade 3 4 -> 3
-                fade 4 5 -> 4
-                fade 5 6 -> 5
-                fade 6 7 -> 6
-                fade 7 8 -> 7
-                fade 8 9 -> 8
+        Runs.run("promise 18, the longest ring and the longest way into one", Runs.chain() + """
                 faded 0 -1 -> 10
                 faded 0 -2 -> 1
                 fade 9 0 -> 9

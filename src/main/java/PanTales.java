@@ -355,15 +355,15 @@ public final class PanTales {
     }
 
     private static boolean isPlace(int place) {
-        return within(place, 0, PLACES - 1);
+        return place >= 0 && place < PLACES;
     }
 
     private static boolean isHouse(int house) {
-        return within(house, 0, HOUSES - 1);
+        return house >= 0 && house < HOUSES;
     }
 
     private static boolean isTale(int tale) {
-        return within(tale, 0, TALES - 1);
+        return tale >= 0 && tale < TALES;
     }
 
     private static boolean isIn(int house, int set) {
@@ -642,7 +642,7 @@ public final class PanTales {
 
         /** Whether a bed that is not DAMP makes its HOUSE BELIEVE, by the HEAT ahead of it. */
         boolean isConvinced(int house, int heatAhead) {
-            return heatAhead > 9 * doubtOf(house);
+            return isHouse(house) && heatAhead > 9 * doubts[house];
         }
 
         void liveYear(int seed, int m) {
