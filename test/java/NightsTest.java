@@ -99,6 +99,15 @@ public final class NightsTest {
                 pad =11AB*~
                 judge 0 -> 4
                 judge 1 -> 3
+                # HEAT 1 is enough
+                road 3 4 8 -> 0
+                pad =01DE*
+                judge 0 -> NONE
+                pad =01DE~
+                judge 0 -> NONE
+                road 3 4 9 -> 8
+                pad =01DE~
+                judge 1 -> 3
                 # a cold PAN can be carried, and a cold night can end
                 pad AkAk.
                 judge 0 -> NONE

@@ -132,6 +132,19 @@ public final class SaidTest {
                 fits -1 -> 1
                 fits 0 -> 1
                 """);
+        Runs.run("promise 22, the first bed that tells two apart", """
+                fade 7 3 -> 7
+                fade 3 4 -> 3
+                fade 4 3 -> 4
+                seen 4 4 -> 1
+                seen 0 7 -> 2
+                # 7 with 1: behind one stir 3 in bed 1; 7 with 2: still 7 there
+                fits -1 -> 2
+                fits 0 -> 71
+                fits 1 -> 72
+                ask 0 -> 1
+                ask 1 -> 1
+                """);
     }
 
     private static void rows() {
@@ -304,6 +317,12 @@ public final class SaidTest {
                 done -> 1
                 year 2146 4 0 -> 1
                 """);
+        Runs.run("promise 25, the least and the most seed and ACTS", """
+                year 0 1 2 -> 50
+                year 0 99 0 -> 0
+                year 9999 1 1 -> 0
+                year 9999 99 2 -> 50
+                """);
         Runs.run("promise 25, those that BELIEVE already", """
                 tell 0 3 -> NONE
                 tell 1 3 -> NONE
@@ -399,6 +418,16 @@ public final class SaidTest {
                 fits 0 -> 41
                 restore 0 -> 1
                 fits 0 -> 31
+                # which bed it was is kept, too
+                fade 3 4 -> 3
+                forget -> 1
+                seen 40 4 -> 1
+                image 0 -> 1
+                forget -> 1
+                seen 0 4 -> 1
+                fits -1 -> 5
+                restore 0 -> 1
+                fits -1 -> 10
                 """);
         Runs.run("promises 26 and 27, refused", """
                 image 2 -> OUTSIDE

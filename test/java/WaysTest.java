@@ -33,6 +33,9 @@ public final class WaysTest {
                 near 0 1 1 -> 1
                 near 1 0 1 -> 0
                 near 0 0 0 -> 0
+                road 0 1 1 -> 8
+                near 0 1 0 -> 1
+                near 0 1 1 -> 1
                 near 3 0 0 -> NONE
                 near 0 3 1 -> NONE
                 """);
