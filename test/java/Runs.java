@@ -1,5 +1,7 @@
 import java.lang.reflect.Method;
+import java.util.ArrayList;
 import java.util.LinkedHashMap;
+import java.util.List;
 import java.util.Map;
 
 /**
@@ -39,7 +41,17 @@ final class Runs {
     }
 
     static void run(String about, String rows) {
+        after(about, rows);
+    }
+
+    /** A new object behind these rows. */
+    static PanTales after(String about, String rows) {
         PanTales on = new PanTales();
+        go(on, about, rows);
+        return on;
+    }
+
+    static void go(PanTales on, String about, String rows) {
         for (String line : rows.split("\n")) {
             String row = line.strip();
             if (row.startsWith("pad")) {
@@ -48,6 +60,15 @@ final class Runs {
                 answer(on, about, row);
             }
         }
+    }
+
+    /** What is answered to these calls, whatever is due. */
+    static List<Long> ask(PanTales on, List<String> calls) {
+        List<Long> answers = new ArrayList<>();
+        for (String each : calls) {
+            answers.add(asked(on, each));
+        }
+        return answers;
     }
 
     /** Rows by which each TALE but the last fades into the next one, on a new object. */
@@ -68,12 +89,16 @@ final class Runs {
 
     private static void answer(PanTales on, String about, String row) {
         String[] sides = row.split("->");
-        String[] words = sides[0].strip().split(" +");
+        due(about, sides[0].strip(), asked(on, sides[0].strip()), number(sides[1].strip()));
+    }
+
+    private static long asked(PanTales on, String row) {
+        String[] words = row.split(" +");
         int[] numbers = new int[words.length - 1];
         for (int i = 0; i < numbers.length; i++) {
             numbers[i] = (int) number(words[i + 1]);
         }
-        due(about, sides[0].strip(), call(on, CALLS.get(words[0]), numbers), number(sides[1].strip()));
+        return call(on, CALLS.get(words[0]), numbers);
     }
 
     private static long number(String word) {
