@@ -209,6 +209,15 @@ public final class WaysEdgesTest {
                 round 20 1 -> 3
                 round 21 1 -> 7
                 """);
+        Edges.edge(PAST, """
+                # A behind B: B first leaves 1 ahead of A of 8; A first would leave none ahead of B
+                road 10 1 1 -> 0
+                road 1 0 1 -> 0
+                house 0 0 0 -> 5
+                house 1 0 0 -> 5
+                round 8 1 -> 3
+                round 7 1 -> 1
+                """);
         Edges.edge("each HOUSE once at the most", """
                 road 10 9 1 -> 0
                 house 9 0 0 -> 5
