@@ -25,6 +25,7 @@ public final class FaceTest {
         constants();
         members();
         words(Files.readString(Path.of("src/main/java/PanTales.java")));
+        lengths(Files.readAllLines(Path.of("src/main/java/PanTales.java")));
         Runs.end();
     }
 
@@ -89,6 +90,21 @@ public final class FaceTest {
             }
             for (Constructor<?> made : inside.getDeclaredConstructors()) {
                 yes(made + " parameters", made.getParameterCount() <= 7);
+            }
+        }
+    }
+
+    /** Rule 11: a method has some sixty lines at the most. Members of the class stand 4 signs in, those of classes inside 8. */
+    private static void lengths(List<String> lines) {
+        Pattern head = Pattern.compile("( {4}| {8})(?!for |if |while |switch )[^ /*].*\\) \\{");
+        for (int from = 0; from < lines.size(); from++) {
+            Matcher found = head.matcher(lines.get(from));
+            if (found.matches()) {
+                int to = from;
+                while (to < lines.size() - 1 && !lines.get(to).equals(found.group(1) + "}")) {
+                    to++;
+                }
+                yes(lines.get(from).strip() + " " + (to - from + 1) + " lines", to - from < 60);
             }
         }
     }
